@@ -171,6 +171,8 @@ public final class AttacksTest {
             CheckKit.board("...../...../..K../...../.....").escapes(), MateKeys.NOTHING);
         CHECK.due("a king alone", CheckKit.board("....k/...../...../...../.....").escapes(),
             CheckKit.set("d5", "d4", "e4"));
+        CHECK.due("a king on a1", CheckKit.board("...../...../...../...../k....").escapes(),
+            CheckKit.set("b1", "a2", "b2"));
         CHECK.due("beside stones", CheckKit.board("....k/...##/...../...../.....").escapes(),
             CheckKit.set("d5"));
         // The rook's line goes on over the king's square to d3.

@@ -72,6 +72,7 @@ public final class BoardTest {
         CHECK.due("state", CheckKit.state(x), state);
         x.lift(3);
         CHECK.due("a king again", x.put(1, 0), 12);
+        CHECK.refused(x, "a king beside the one on a1", x.put(1, 1), 2, 0);
         x.lift(14);
         CHECK.due("a twelfth", x.put(5, 24), 12);
     }
@@ -208,6 +209,9 @@ public final class BoardTest {
         CHECK.due("the stone first", x.manOf(13, 3), 0);
         CHECK.due("thrift", x.thrift(), 2);
         CHECK.due("the board", CheckKit.show(x), "k..../...../.K.../...../....R");
+        x = CheckKit.board("k...#/...../.K.../#..R./#....");
+        CHECK.due("thrift from e5 to a1", x.thrift(), 3);
+        CHECK.due("the board", CheckKit.show(x), "k..../...../.K.../...R./.....");
         // Of two guards that one can spare, the one on the higher square goes.
         x = CheckKit.board("k..../.#.../...../.N.../...BR");
         CHECK.due("the guard on d1", x.manOf(3, 3), 1);
@@ -223,6 +227,8 @@ public final class BoardTest {
         CHECK.due("state", CheckKit.state(x), state);
         x = CheckKit.board("k...R/.K.../...../...../....R");
         CHECK.refused(x, "thrift of an attacked king", x.thrift(), 7, 2);
+        x = CheckKit.board("R..../...../...../..N../k...R");
+        CHECK.refused(x, "thrift of one on a1", x.thrift(), 7, 3);
         x = CheckKit.board("k..../...../...../..#../....R");
         state = CheckKit.state(x);
         CHECK.refused(x, "thrift without a key", x.thrift(), 6, 3);

@@ -253,6 +253,10 @@ public final class LinesTest {
         accounts("changes", x, 3, 2, 0, 24, 14, 16, 1, 1, 1, 1, 2, 8);
         x.lift(24);
         accounts("no black king", x, 2, 2, 0, MateKeys.NOTHING, 16, 16, 1, 1, 1, 1, 2, 8);
+        x = CheckKit.board("R..../..N../.#.../...../k..#.");
+        // The rook attacks eight squares, a1 among them, the knight a5 and five more, a3 and e5
+        // a second time.
+        accounts("a king on a1", x, 5, 2, 2, 0, 12, 12, 0, 0, 0, 0, 0, 5);
         accounts("empty", new MateKeys(), 0, 0, 0, MateKeys.NOTHING, 0, 0, 0, 0, 0, 0, 0, 0);
     }
 

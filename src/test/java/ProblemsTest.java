@@ -13,6 +13,7 @@ public final class ProblemsTest {
         kindErrors();
         guards();
         refutation();
+        keysOfCorners();
         many();
         duals();
         would();
@@ -101,6 +102,20 @@ public final class ProblemsTest {
         CHECK.due("not fit, nothing there", x.refutation(0, 0), MateKeys.NOTHING);
     }
 
+    private static void oneKey(String board, int due) {
+        MateKeys x = CheckKit.board(board);
+        CHECK.due(board + ": key", x.key(0), due);
+        CHECK.due(board + ": next key", x.key(1), MateKeys.NONE);
+        CHECK.due(board + ": isWell", x.isWell(), 1);
+    }
+
+    private static void keysOfCorners() {
+        oneKey("..k../...../..K../...../R....", 20);
+        oneKey("R..../...../..K../...../..k..", 2000);
+        oneKey("..k../...../..K../...../....R", 424);
+        oneKey("....R/...../..K../...../..k..", 2404);
+    }
+
     private static void counts(String board, int other, int dull, int tries, int keys) {
         MateKeys x = CheckKit.board(board);
         CHECK.due(board + ": other moves", x.many(0), other);
@@ -165,6 +180,8 @@ public final class ProblemsTest {
         CHECK.due("no such kind", x.would(8, 0), MateKeys.BAD);
         CHECK.due("a second king", x.would(1, 0), MateKeys.BAD);
         CHECK.due("a second king for a rook", x.would(1, 4), MateKeys.BAD);
+        CHECK.due("a second king with one on a1",
+            CheckKit.board("..k../...../...../...../K....").would(1, 1), MateKeys.BAD);
         MateKeys kingless = CheckKit.board("k..../...../...../...../....R");
         CHECK.due("a first king", kingless.would(1, 11), 1);
         CHECK.due("kings beside", kingless.would(1, 16), MateKeys.NOTHING);
