@@ -236,7 +236,8 @@ public final class MateKeys {
         }
         trial.copyFrom(now);
         trial.setMan(square, kind);
-        if (trial.countAll() > MOST_MEN || !trial.fits()) {
+        // The limit of men and stones is put's alone: of 13 the number is told as of any other.
+        if (!trial.fits()) {
             return NOTHING;
         }
         keys.fillWithKeys(trial);

@@ -425,7 +425,7 @@ final class ModelKit {
             return -2;
         }
         String other = with(men, square, LETTERS.charAt(kind));
-        return total(other) > 12 || !fit(other) ? -4 : keys(other).size();
+        return fit(other) ? keys(other).size() : -4;
     }
 
     private int ranked(int place) {

@@ -13,7 +13,11 @@ public final class ModelTest {
     private static final String[] STARTS = {
         "", "", "", "ka5;Kb3;Re1", "ka5;Kb3;Rd1;Re1;#d3;Na1", "ka1;Qb5;#e3", "ke5;Kc4;Qd1;Bb1;#e4",
         "ka5;#b5;#b4;#a4;Nc3;Rd1", "kc5;Kc3;Rb1;Rd1;Qe2;#a4", "ke1;Kd3;Qa2;Nb4;#e3;#a5;Bc5",
-        "ka3;Kc3;Ra5;Re2;#b1;Nd4;#e5", "ka5;Ra1;#a4;Kb3;Re1;Be2"
+        "ka3;Kc3;Ra5;Re2;#b1;Nd4;#e5", "ka5;Ra1;#a4;Kb3;Re1;Be2",
+        // Twelve, the most that there are: would tells of a thirteenth.
+        "ke1;#d1;#e2;Rd2;Ka3;Qa5;Qa1;Qb1;Qc1;Qa2;Qb2;Qc2",
+        "ka5;Kb3;Re1;#a1;#b1;#c1;Na2;Bb2;#c2;#d2;Na3;#e3",
+        "kc3;#b2;#c2;#d2;#b4;#d4;#b3;#d3;Ra1;Rd5;Ka5;Be2"
     };
 
     private static long seed = 20261119L;
@@ -39,7 +43,14 @@ public final class ModelTest {
     }
 
     private static int begin(int run, String start) {
-        return start.isEmpty() ? 0 : readText(run, start);
+        if (start.isEmpty()) {
+            return 0;
+        }
+        int calls = readText(run, start);
+        for (int square = 0; square < 25; square++) {
+            calls += compare(run, "would", any(7), square);
+        }
+        return calls;
     }
 
     /** Numbers from a fixed seed: the runs are the same each time. */

@@ -18,6 +18,7 @@ public final class ProblemsTest {
         duals();
         would();
         wouldErrors();
+        wouldOfThirteen();
         ranked();
         CHECK.finish();
     }
@@ -186,17 +187,36 @@ public final class ProblemsTest {
         CHECK.due("a first king", kingless.would(1, 11), 1);
         CHECK.due("kings beside", kingless.would(1, 16), MateKeys.NOTHING);
         CHECK.due("without a black king", new MateKeys().would(2, 0), MateKeys.NOTHING);
-        int[] stones = {0, 1, 2, 5, 6, 7, 8, 10, 12};
-        for (int square : stones) {
-            x.put(6, square);
-        }
+    }
+
+    private static void wouldOfThirteen() {
+        MateKeys x = CheckKit.board("k..../...../#K#../####./###.R");
         CHECK.due("men and stones", x.account(0), 12);
-        CHECK.due("a thirteenth", x.would(6, 13), MateKeys.NOTHING);
-        CHECK.due("a thirteenth king", x.would(1, 13), MateKeys.BAD);
+        CHECK.due("a thirteenth", x.would(6, 13), 1);
+        // The queen's own key is d3-d5, beside e1-e5.
+        CHECK.due("a thirteenth queen", x.would(2, 13), 2);
+        CHECK.due("a thirteenth that bars the key", x.would(6, 14), 0);
+        CHECK.due("a thirteenth that attacks the king", x.would(2, 24), MateKeys.NOTHING);
+        CHECK.due("a second king", x.would(1, 13), MateKeys.BAD);
+        CHECK.due("a thirteenth on a king", x.would(2, 20), MateKeys.NONE);
+        CHECK.due("a thirteenth of no kind", x.would(7, 13), MateKeys.BAD);
         CHECK.due("one for another", x.would(5, 0), 1);
         CHECK.due("one less", x.would(0, 0), 1);
         CHECK.due("nothing for nothing", x.would(0, 13), 1);
         CHECK.due("nothing refused", x.refusal(0), MateKeys.NOTHING);
+        CHECK.due("as many as before", x.account(0), 12);
+        CHECK.due("put is refused", x.put(2, 13), MateKeys.REFUSED);
+        x = CheckKit.board("k..../...../#.#../#####/###.R");
+        CHECK.due("kingless", x.account(0), 12);
+        CHECK.due("a thirteenth king", x.would(1, 11), 0);
+        CHECK.due("a thirteenth king beside", x.would(1, 16), MateKeys.NOTHING);
+        x.lift(9);
+        x.put(6, 13);
+        CHECK.due("a thirteenth king, with its key", x.would(1, 11), 1);
+        x = CheckKit.board("...../...../#.#../#####/###.R");
+        x.put(6, 24);
+        CHECK.due("kingless both", x.account(0), 12);
+        CHECK.due("a thirteenth without a black king", x.would(2, 13), MateKeys.NOTHING);
     }
 
     private static void ranked() {
