@@ -1,19 +1,35 @@
 /** What the tests share: boards from lines, texts, and the comparison with what is due. */
 final class CheckKit {
     private static final String LETTERS = ".KQRBN#k";
+    /** Of each sentence's wrong answers the first ones tell enough. */
+    private static final int MOST_TOLD = 20;
     private int wrong;
+    private String about = "";
+    private int told;
+
+    /** Names the promise and its sentence, for what is compared from here on. */
+    void about(String sentence) {
+        about = sentence + ": ";
+        told = 0;
+    }
 
     void due(String call, long got, long want) {
         if (got != want) {
-            wrong++;
-            System.out.println(call + " answered " + got + ", due is " + want);
+            tellWrong(call, "" + got, "" + want);
         }
     }
 
     void due(String call, String got, String want) {
         if (!got.equals(want)) {
-            wrong++;
-            System.out.println(call + " answered " + got + ", due is " + want);
+            tellWrong(call, got, want);
+        }
+    }
+
+    private void tellWrong(String call, String got, String want) {
+        wrong++;
+        told++;
+        if (told <= MOST_TOLD) {
+            System.out.println(about + call + " answered " + got + ", due is " + want);
         }
     }
 

@@ -41,7 +41,7 @@ final class ModelKit {
         return square >= 0 && square <= 24;
     }
 
-    private static String with(String men, int square, char sign) {
+    static String with(String men, int square, char sign) {
         return men.substring(0, square) + sign + men.substring(square + 1);
     }
 
@@ -60,7 +60,7 @@ final class ModelKit {
     }
 
     /** Whether the man on the first square attacks the second one. */
-    private static boolean attacks(String men, int from, int to) {
+    static boolean attacks(String men, int from, int to) {
         int columns = to % 5 - from % 5;
         int rows = to / 5 - from / 5;
         int longer = Math.max(Math.abs(columns), Math.abs(rows));
@@ -109,12 +109,12 @@ final class ModelKit {
         return count;
     }
 
-    private static boolean fit(String men) {
+    static boolean fit(String men) {
         int king = men.indexOf('k');
         return king >= 0 && attackersOf(men, king) == 0;
     }
 
-    private static boolean legal(String men, int from, int to) {
+    static boolean legal(String men, int from, int to) {
         char man = men.charAt(from);
         char there = men.charAt(to);
         if (!white(man) || white(there) || there == 'k' || !attacks(men, from, to)) {
@@ -124,7 +124,7 @@ final class ModelKit {
         return man != 'K' || king < 0 || !beside(to, king);
     }
 
-    private static List<Integer> moves(String men) {
+    static List<Integer> moves(String men) {
         List<Integer> moves = new ArrayList<>();
         for (int number = 0; number < 2500; number++) {
             if (number % 100 < 25 && legal(men, number / 100, number % 100)) {
@@ -139,7 +139,7 @@ final class ModelKit {
         return with(with(men, number % 100, men.charAt(from)), from, '.');
     }
 
-    private static TreeSet<Integer> flights(String men) {
+    static TreeSet<Integer> flights(String men) {
         TreeSet<Integer> flights = new TreeSet<>();
         int king = men.indexOf('k');
         for (int to = 0; king >= 0 && to < 25; to++) {
@@ -158,6 +158,11 @@ final class ModelKit {
         boolean attacked = attackersOf(behind, behind.indexOf('k')) > 0;
         boolean stuck = flights(behind).isEmpty();
         return attacked && stuck ? 3 : attacked ? 2 : stuck ? 1 : 0;
+    }
+
+    /** What kind tells of any two squares in a fit position: -1 if there is no such move. */
+    static int kindOrNone(String men, int from, int to) {
+        return legal(men, from, to) ? kindOf(men, from * 100 + to) : -1;
     }
 
     private static List<Integer> keys(String men) {
