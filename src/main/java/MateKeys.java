@@ -14,6 +14,8 @@ public final class MateKeys {
     private static final int MOST_COMMANDS = 35;
     private static final int BOARD_LINE = 29;
     private static final int WRONG_TEXT = -100;
+    /** They bring 1/25, the smallest share but 0, to 1 or more. */
+    private static final int MOST_DOUBLINGS = 5;
 
     private static final int EMPTY = 0;
     private static final int WHITE_KING = 1;
@@ -665,7 +667,7 @@ public final class MateKeys {
         }
         float fraction = share;
         int exponent = 127;
-        for (int i = 0; i < WIDTH && fraction < 1f; i++) {
+        for (int i = 0; i < MOST_DOUBLINGS && fraction < 1f; i++) {
             fraction = fraction * 2f;
             exponent--;
         }

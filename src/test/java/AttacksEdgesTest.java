@@ -13,7 +13,10 @@ public final class AttacksEdgesTest {
         notByItself();
         ownColourAsOthers();
         neitherStonesNorBlackKing();
-        manOfErrors();
+        manOfNoSquare();
+        manOfNoWhat();
+        manOfEmptySquare();
+        manOfNotFit();
         manOfErrorsInOrder();
         manOfSquares();
         manOfMoves();
@@ -160,7 +163,7 @@ public final class AttacksEdgesTest {
 
     // ---- promise 11
 
-    private static void manOfErrors() {
+    private static void manOfNoSquare() {
         CHECK.about("Promise 11: NONE if there is no such square");
         MateKeys x = EdgeKit.full();
         for (int square : EdgeKit.NO_SQUARES) {
@@ -168,12 +171,19 @@ public final class AttacksEdgesTest {
                 CHECK.due("manOf " + square + " " + what, x.manOf(square, what), MateKeys.NONE);
             }
         }
+    }
+
+    private static void manOfNoWhat() {
         CHECK.about("Promise 11: BAD if there is no such what");
+        MateKeys x = EdgeKit.full();
         for (int what : EdgeKit.outside(0, 3)) {
             for (int square : EdgeKit.SOME_SQUARES) {
                 CHECK.due("manOf " + square + " " + what, x.manOf(square, what), MateKeys.BAD);
             }
         }
+    }
+
+    private static void manOfEmptySquare() {
         CHECK.about("Promise 11: NOTHING if the square is empty");
         for (int what = 0; what < 4; what++) {
             for (int square = 0; square < 25; square++) {
@@ -181,8 +191,11 @@ public final class AttacksEdgesTest {
                     MateKeys.NOTHING);
             }
         }
+    }
+
+    private static void manOfNotFit() {
         CHECK.about("Promise 11: for 2 and 3 also NOTHING if the position is not fit");
-        x = CheckKit.board("k...R/#..../.K.../...../B.N.Q");
+        MateKeys x = CheckKit.board("k...R/#..../.K.../...../B.N.Q");
         int[] squares = {20, 24, 15, 11, 0, 2, 4};
         for (int square : squares) {
             CHECK.due("manOf " + square + " 0", x.manOf(square, 0) >= 0 ? 1 : 0, 1);
@@ -255,10 +268,19 @@ public final class AttacksEdgesTest {
         CHECK.due("the man that moves in the key told", EdgeKit.full().manOf(4, 3), 0);
         MateKeys x = CheckKit.board("k..../#..../.K.../...../R...R");
         CHECK.due("without it not fit", x.manOf(15, 3), 0);
+        x = CheckKit.board("k..../##.../...../...../R...R");
+        CHECK.due("without it not fit, though with the same key", x.manOf(15, 3), 0);
+        CHECK.due("the rook that would attack", x.manOf(0, 3), 1);
         x = CheckKit.board("k..../...../.K.#./...../...RR");
         CHECK.due("without it one key more", x.manOf(13, 3), 0);
         x = CheckKit.board("k..../...../.K.../...../...RR");
         CHECK.due("without it one key less", x.manOf(4, 3), 0);
+        x = CheckKit.board("k..../...../.K.../....R/...RR");
+        CHECK.due("without it as many keys, but another", x.manOf(9, 3), 0);
+        x = CheckKit.board("...RR/...../.K..#/...../k....");
+        CHECK.due("without it one key more, from e5", x.manOf(14, 3), 0);
+        x = CheckKit.board("..k../...../#.K../...../R...R");
+        CHECK.due("without it one key more, from a1", x.manOf(10, 3), 0);
         x = CheckKit.board("k..../.#.../...../...../....R");
         CHECK.due("without it no key", x.manOf(16, 3), 0);
         x = CheckKit.board("k..../...../...../..#../....R");
@@ -402,6 +424,8 @@ public final class AttacksEdgesTest {
             x.put(6, 3);
             CHECK.due("the guard is barred: " + man, x.escapes() & 2, 2);
         }
+        CHECK.due("guarded over the king's old square",
+            CheckKit.board("...../...../...../###../NkR..").escapes(), 1 << 2);
         CHECK.about("Terms, answers: a square beside it on which there is no stone");
         CHECK.due("a stone", CheckKit.board("...../...../...../...../k#...").escapes() & 2, 0);
     }

@@ -530,6 +530,11 @@ public final class BoardEdgesTest {
         CHECK.due("one of the guards", x.thrift(), 1);
         CHECK.due("the higher one is off", x.at(6), 0);
         CHECK.due("the lower one is there", x.at(3), 4);
+        CHECK.about("Promise 7 and Terms, sparing: not one without which the position is not fit");
+        // Without the stone on a4 the only key would be the same, but the rook on a1 would attack.
+        x = CheckKit.board("k..../##.../...../...../R...R");
+        CHECK.due("one", x.thrift(), 1);
+        CHECK.due("the board", CheckKit.show(x), "k..../##.../...../...../....R");
     }
 
     private static void thriftTimeAndAgain() {
@@ -551,6 +556,10 @@ public final class BoardEdgesTest {
         CHECK.refused(x, "1, the white king beside it", x.thrift(), 7, 1);
         x = CheckKit.board("kQ.../.K.../...../...../R....");
         CHECK.refused(x, "3", x.thrift(), 7, 3);
+        x = CheckKit.board("R..../...../.N.../...../k...R");
+        CHECK.refused(x, "3 of one on a1", x.thrift(), 7, 3);
+        x = CheckKit.board("R...k/...../...../...../....R");
+        CHECK.refused(x, "2 of one on e5", x.thrift(), 7, 2);
         x = CheckKit.board(".N.N./NQQQN/..k../N...N/.N.N.");
         CHECK.refused(x, "11, the most that there can be", x.thrift(), 7, 11);
         CHECK.about("Promise 7: REFUSED for the reason 7 ahead of 6");
