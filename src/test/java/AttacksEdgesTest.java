@@ -31,6 +31,7 @@ public final class AttacksEdgesTest {
         escapesNone();
         escapesAlongLines();
         escapesByTaking();
+        escapesByTakingTheWhiteKing();
         escapesFromEachMan();
         isFitConditions();
         isFitBeside();
@@ -428,6 +429,16 @@ public final class AttacksEdgesTest {
             CheckKit.board("...../...../...../###../NkR..").escapes(), 1 << 2);
         CHECK.about("Terms, answers: a square beside it on which there is no stone");
         CHECK.due("a stone", CheckKit.board("...../...../...../...../k#...").escapes() & 2, 0);
+    }
+
+    private static void escapesByTakingTheWhiteKing() {
+        CHECK.about("Terms, the board: a white king is a white man; In doubt: not attacked by itself");
+        CHECK.due("alone", CheckKit.board("...../...../...../...../kK...").escapes(), 1 << 1);
+        CHECK.due("guarded", CheckKit.board("...../...../...../...../kK..R").escapes(), 0);
+        CHECK.due("the guard is barred", CheckKit.board("...../...../...../...../kK.#R").escapes(), 1 << 1);
+        CHECK.due("guarded over the black king's old square",
+            CheckKit.board("...../...../...../...../RkK..").escapes(), 1);
+        CHECK.due("guarded by a knight", CheckKit.board("...../...../N..../...../kK...").escapes(), 0);
     }
 
     private static void escapesFromEachMan() {
